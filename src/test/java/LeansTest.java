@@ -21,6 +21,7 @@ public final class LeansTest {
         windWithoutColumn();
         grew();
         grewOfTen();
+        grewByCutValues();
         CHECK.end();
     }
 
@@ -348,5 +349,20 @@ public final class LeansTest {
         grown("ten with one back", years(1, 0, 2, 3, 4, 5, 6, 7, 8, 9), 44, 10, 3628800, 10);
         grown("ten with two back", years(1, 0, 3, 2, 4, 5, 6, 7, 8, 9), 43, 54, 3628800, 10);
         grown("ten falling", years(9, 8, 7, 6, 5, 4, 3, 2, 1, 0), 0, 3628800, 3628800, 10);
+    }
+
+    /** A hundred with one of NUMBER 1, then ninety-nine: the greater mean is cut to the same VALUE. */
+    private static void grewByCutValues() {
+        WindWords x = Check.crew(2);
+        x.set(0, 0);
+        x.read(1, 0, 0, 3, 0);
+        for (int watch = 0; watch < 199; watch++) {
+            x.read(0, watch, 0, 0, watch == 50 || watch == 150 ? 1 : 0);
+        }
+        same("21: the first", x.wind(0, 0), 100);
+        same("21: the second", x.wind(1, 0), 99);
+        grown("cut", x, 0, 2, 2, 2);
+        x.read(0, 199, 0, 0, 1);
+        grown("greater", x, 1, 1, 2, 2);
     }
 }

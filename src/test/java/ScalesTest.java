@@ -174,6 +174,11 @@ public final class ScalesTest {
         x.signs(0, 1, 500);
         same("15: the officer before", x.run(0, 499, 5, 4, 8), 2);
         same("15: the officer of that watch", x.run(0, 500, 5, 4, 3), 2);
+        Check.scale(x, "canvas 6 from 34; canvas 7 from 92 if year=6;", 6);
+        same("15: the scale before", x.run(0, 599, 5, 4, 3), 2);
+        same("15: the scale of that year", x.run(0, 600, 5, 4, 6), 2);
+        same("15: that year is asked", x.run(0, 699, 5, 4, 7), 1);
+        same("15: another year is asked", x.run(0, 700, 5, 4, 6), 3);
     }
 
     private static int bareTimes(int seed, int n, int number) {

@@ -147,6 +147,12 @@ public final class TextsTest {
         faulty("canvas  ", 8);
         faulty("canvs 3 from 1;", 0);
         faulty("canvass 3 from 1;", 0);
+        faulty("seaz 3 from 1;", 0);
+        faulty("sea 3 froma1;", 6);
+        faulty("sea 3 from{1;", 10);
+        faulty("sea 3 from`1;", 10);
+        faulty("sea 3/from 1;", 5);
+        faulty("sea 3:from 1;", 5);
         faulty("  cup 3 from 1;", 2);
         faulty("Sea 3 from 1;", 0);
         faulty("lean up 1;", 0);
