@@ -741,20 +741,16 @@ public final class WindWords {
 
         /** The code of the k-th token; behind the last one END. */
         int codeAt(int k) {
-            return within(k, tokens - 1) ? code[k] : END;
-        }
-
-        int valueAt(int k) {
-            return within(k, tokens - 1) ? value[k] : NONE;
+            return k >= 0 && k < tokens ? code[k] : END;
         }
 
         int widthAt(int k) {
-            return within(k, tokens - 1) ? width[k] : 0;
+            return k >= 0 && k < tokens ? width[k] : 0;
         }
 
         /** Where the k-th token begins; behind the last one the end of the text. */
         int placeAt(int k) {
-            return within(k, tokens - 1) ? place[k] : textEnd;
+            return k >= 0 && k < tokens ? place[k] : textEnd;
         }
 
         private int take(int at, int end) {
@@ -926,7 +922,7 @@ public final class WindWords {
 
         private static boolean compares(int step, int[] words) {
             int word = step / VALUES % WORDS;
-            int is = within(word, words.length - 1) ? words[word] : 0;
+            int is = word >= 0 && word < words.length ? words[word] : 0;
             int value = step % VALUES;
             switch (step / VALUES / WORDS) {
                 case 0: return is < value;
@@ -1117,18 +1113,17 @@ public final class WindWords {
         }
 
         private boolean takes(Tape tape, int code) {
-            boolean is = at < tape.tokens && tape.codeAt(at) == code;
+            boolean is = at < tape.tokens && tape.code[at] == code;
             at += is ? 1 : 0;
             return is;
         }
 
         private int numberUpTo(Tape tape, int most) {
-            int number = tape.valueAt(at);
-            if (tape.codeAt(at) != Tape.DIGITS || number > most) {
+            if (at >= tape.tokens || tape.code[at] != Tape.DIGITS || tape.value[at] > most) {
                 return NONE;
             }
             at++;
-            return number;
+            return tape.value[at - 1];
         }
     }
 
