@@ -730,12 +730,8 @@ public final class WindWords {
             textEnd = Math.max(0, Math.min(n, size));
             tokens = 0;
             int at = 0;
-            while (at < textEnd) {
-                if (isBlank(bytes[at])) {
-                    at++;
-                } else {
-                    at = take(at, textEnd);
-                }
+            for (int k = 0; k < MOST_BYTES && at < textEnd; k++) {
+                at = isBlank(bytes[at]) ? at + 1 : take(at, textEnd);
             }
         }
 
@@ -988,7 +984,7 @@ public final class WindWords {
             at = 0;
             rules.clear();
             boolean goesOn = true;
-            while (goesOn && at < tape.tokens && rules.statements < Rules.MOST) {
+            for (int k = 0; k < Rules.MOST && goesOn && at < tape.tokens; k++) {
                 goesOn = ofScale ? takesSort(tape, rules) : takesHabit(tape, rules);
             }
             return goesOn && at >= tape.tokens ? NONE : tape.placeAt(at);
@@ -1055,7 +1051,7 @@ public final class WindWords {
             if (!takesAll(tape, rules, open)) {
                 return false;
             }
-            while (at < tape.tokens && takes(tape, Tape.OR)) {
+            for (int k = 0; k < tape.tokens && takes(tape, Tape.OR); k++) {
                 if (!takesAll(tape, rules, open)) {
                     return false;
                 }
@@ -1068,7 +1064,7 @@ public final class WindWords {
             if (!takesOne(tape, rules, open)) {
                 return false;
             }
-            while (at < tape.tokens && takes(tape, Tape.AND)) {
+            for (int k = 0; k < tape.tokens && takes(tape, Tape.AND); k++) {
                 if (!takesOne(tape, rules, open)) {
                     return false;
                 }
@@ -1078,17 +1074,17 @@ public final class WindWords {
         }
 
         private boolean takesOne(Tape tape, Rules rules, int open) {
-            if (open < MOST_OPEN && takes(tape, Tape.NOT)) {
-                if (!takesOne(tape, rules, open + 1)) {
-                    return false;
-                }
+            int inside = open;
+            while (inside < MOST_OPEN && takes(tape, Tape.NOT)) {
+                inside++;
+            }
+            boolean isTaken = inside < MOST_OPEN && takes(tape, '(')
+                    ? takesAny(tape, rules, inside + 1) && takes(tape, ')')
+                    : takesComparison(tape, rules);
+            if (isTaken && (inside - open) % 2 == 1) {
                 rules.addStep(Rules.NOT_STEP);
-                return true;
             }
-            if (open < MOST_OPEN && takes(tape, '(')) {
-                return takesAny(tape, rules, open + 1) && takes(tape, ')');
-            }
-            return takesComparison(tape, rules);
+            return isTaken;
         }
 
         private boolean takesComparison(Tape tape, Rules rules) {
