@@ -33,17 +33,29 @@ final class Check {
 
     /** Feeds a text, filled up with blanks to twenties; answers its own length. */
     static int feed(WindWords x, String text) {
-        int[] numbers = new int[5];
-        for (int from = 0; from < text.length(); from += 20) {
-            for (int k = 0; k < 5; k++) {
-                numbers[k] = four(text, from + 4 * k);
-            }
-            x.feed(numbers[0], numbers[1], numbers[2], numbers[3], numbers[4]);
+        for (int[] f : fives(text)) {
+            x.feed(f[0], f[1], f[2], f[3], f[4]);
         }
         return text.length();
     }
 
-    static int four(String text, int from) {
+    /** Feeds a text to both. */
+    void feed(WindWords x, Model m, String text) {
+        for (int[] f : fives(text)) {
+            same("8: feed", x.feed(f[0], f[1], f[2], f[3], f[4]), m.feed(f));
+        }
+    }
+
+    /** The numbers that feed a text, five for each twenty bytes. */
+    private static int[][] fives(String text) {
+        int[][] all = new int[(text.length() + 19) / 20][5];
+        for (int k = 0; k < 5 * all.length; k++) {
+            all[k / 5][k % 5] = four(text, 4 * k);
+        }
+        return all;
+    }
+
+    private static int four(String text, int from) {
         int number = 0;
         for (int k = from; k < from + 4; k++) {
             number = number << 8 | (k < text.length() ? text.charAt(k) & 255 : ' ');
@@ -57,6 +69,30 @@ final class Check {
 
     static int habits(WindWords x, int officer, String text) {
         return x.habits(officer, feed(x, text));
+    }
+
+    /** Each call that only asks, with the same two numbers throughout. */
+    static void askAll(WindWords x, int a, int b) {
+        x.fault();
+        x.reading(a, b);
+        x.reads(a, b, a, b);
+        x.blow(a, b, a, b, a);
+        x.run(a, b, a, b, a);
+        x.column(a, b, a, b, a);
+        x.turn(a, b, a, b, a);
+        x.tight();
+        x.lean(a, b);
+        x.liked(a, b, a);
+        x.wind(a, b);
+        x.grew(a);
+        x.late(a);
+        x.copied(a, b);
+        x.find(a);
+        x.wished(a, b);
+        x.eight(a, b, a, b);
+        x.alike(a);
+        x.way(a, b);
+        x.count(a);
     }
 
     /** A spot of read(). */

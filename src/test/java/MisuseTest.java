@@ -83,27 +83,8 @@ public final class MisuseTest {
         }
         for (int a : ODD) {
             for (int b : ODD) {
-                x.reading(a, b);
-                x.reads(a, b, a, b);
-                x.blow(a, b, a, b, a);
-                x.run(a, b, a, b, a);
-                x.column(a, b, a, b, a);
-                x.turn(a, b, a, b, a);
-                x.lean(a, b);
-                x.liked(a, b, a);
-                x.wind(a, b);
-                x.grew(a);
-                x.late(a);
-                x.copied(a, b);
-                x.find(a);
-                x.wished(a, b);
-                x.eight(a, b, a, b);
-                x.alike(a);
+                Check.askAll(x, a, b);
                 x.storm(a, b, a, b);
-                x.way(a, b);
-                x.count(a);
-                x.fault();
-                x.tight();
             }
         }
         for (int k = 0; k < 14; k++) {

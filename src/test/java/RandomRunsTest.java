@@ -121,13 +121,7 @@ public final class RandomRunsTest {
         boolean isScale = random.nextInt(3) > 0;
         String text = TextMaker.text(random, isScale);
         text = text.length() > 900 ? text.substring(0, 900) : text;
-        for (int from = 0; from < text.length() || from == 0; from += 20) {
-            int[] five = new int[5];
-            for (int k = 0; k < 5; k++) {
-                five[k] = Check.four(text, from + 4 * k);
-            }
-            same("feed", x.feed(five[0], five[1], five[2], five[3], five[4]), m.feed(five));
-        }
+        check.feed(x, m, text);
         int n = random.nextInt(10) == 0 ? pick(0, text.length()) : text.length();
         if (isScale) {
             int year = random.nextInt(3) == 0 ? pick(0, 9) : pick(0, firstWatch / 100);
