@@ -6,6 +6,8 @@ public final class TermsTest {
         farBetweenAllCells();
         whoSigns();
         manyNots();
+        comparisonsOfScales();
+        comparisonsOfHabits();
         statementsAfterAFault();
         lastOfFortyHolds();
         habitsOfTheLastOfficer();
@@ -85,6 +87,59 @@ public final class TermsTest {
                 same("13: " + many + " times not, rig " + rig, x.reads(scale, 1, 50, 10 * rig), due);
                 same("13: behind and, " + many + " times not, rig " + rig, x.reads(scale, 2, 50, 10 * rig), due);
                 same("13: depth 1", x.reads(scale, 2, 50, 10 * rig + 1), 0);
+            }
+        }
+    }
+
+    private static boolean compares(int is, char sign, int value) {
+        return sign == '<' ? is < value : sign == '>' ? is > value : is == value;
+    }
+
+    /** Each word against numbers from 0 to 9999, alone and joined: what is asked last in a text asks nothing of what stands before. */
+    private static void comparisonsOfScales() {
+        String[] words = {"rig", "depth", "year"};
+        for (int word = 0; word < 3; word++) {
+            for (char sign : new char[] {'<', '>', '='}) {
+                for (int value : new int[] {0, 1, 3, 9, 10, 9999}) {
+                    String one = words[word] + sign + value;
+                    WindWords x = new WindWords();
+                    Check.scale(x, "sea 1 from 0 if " + one + "; leaf 1 from 0 if not " + one + " or depth=5; canvas 1 from 0 if depth=5 or "
+                            + one + " and rig>1; canvas 2 from 50 if (depth=5 or " + one + ") and not(rig>1);", 0);
+                    for (int[] is : new int[][] {{0, 0, 0}, {1, 1, 1}, {3, 3, 3}, {2, 5, 0}, {0, 5, 9}, {3, 9, 9}, {1, 9, 8}}) {
+                        boolean holds = compares(is[word], sign, value);
+                        boolean deep = is[1] == 5;
+                        boolean high = is[0] > 1;
+                        int mix = 10 * is[0] + is[1];
+                        same("13: " + one + " of " + mix + " in " + is[2], x.reads(is[2], 1, 0, mix), holds ? 1 : 0);
+                        same("13: not " + one + " of " + mix + " in " + is[2], x.reads(is[2], 2, 0, mix), !holds || deep ? 1 : 0);
+                        int joined = (deep || holds) && !high ? 2 : deep || holds && high ? 1 : 0;
+                        same("13: joined " + one + " of " + mix + " in " + is[2], x.reads(is[2], 0, 50, mix), joined);
+                    }
+                }
+            }
+        }
+    }
+
+    private static void comparisonsOfHabits() {
+        String[] words = {"rig", "number", "year", "spars"};
+        for (int word = 0; word < 4; word++) {
+            for (char sign : new char[] {'<', '>', '='}) {
+                for (int value : new int[] {0, 1, 3, 12, 13, 9999}) {
+                    String one = words[word] + sign + value;
+                    WindWords x = new WindWords();
+                    x.officer();
+                    for (int rig = 0; rig < 4; rig++) {
+                        x.ship(rig, 0);
+                    }
+                    Check.habits(x, 0, "lean down 1 if rig=2 and " + one + "; lean up 3 if not " + one + " or rig=2; write 0 for 11;");
+                    for (int[] is : new int[][] {{0, 0, 0}, {1, 1, 1}, {2, 3, 3}, {3, 3, 0}, {2, 12, 9}, {0, 12, 9}, {1, 8, 9}}) {
+                        boolean holds = compares(word == 3 ? 0 : is[word], sign, value);
+                        int leant = is[0] == 2 ? (holds ? is[1] - 1 : is[1] + 3) : holds ? is[1] : is[1] + 3;
+                        leant = Math.max(0, Math.min(12, leant));
+                        same("14: " + one + " of " + is[0] + ", " + is[1] + ", " + is[2],
+                                x.blow(is[0], 100 * is[2], 0, 8 * is[1], 0), leant == 11 ? 0 : leant);
+                    }
+                }
             }
         }
     }
