@@ -681,7 +681,8 @@ public final class WindWords {
             for (int s = 0; s < fleet.ships; s++) {
                 Reading other = fleet.mansBeside(r, s);
                 // each two are met from both sides, and counted from the later told one
-                if (other != null && other.place < k && turnedRow[k] != NONE && turnedRow[other.place] != NONE) {
+                if (other != null && within(other.place, k - 1)
+                        && turnedRow[k] != NONE && turnedRow[other.place] != NONE) {
                     sum += Math.abs(turnedRow[k] - turnedRow[other.place]);
                 }
             }
@@ -750,6 +751,9 @@ public final class WindWords {
         }
 
         private int take(int at, int end) {
+            if (tokens >= MOST_BYTES) {
+                return end;
+            }
             int behind = at + 1;
             int number = 0;
             if (isDigit(bytes[at])) {
@@ -1526,7 +1530,7 @@ public final class WindWords {
             values = 0;
             for (int year = 0; year < YEARS; year++) {
                 gather(year, fleet, scales, leans);
-                if (kept > 0) {
+                if (kept > 0 && values < YEARS) {
                     value[values] = (leastSum + greatestSum) * 1000 / (2 * kept);
                     values++;
                 }
